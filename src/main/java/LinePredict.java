@@ -551,24 +551,21 @@ public final class LinePredict {
 
         // Of the errors of one size, the likelier sign is to fold to the lesser number.
         private boolean turnsAbove(int q) {
-            return has(q) && 2 * leanings[q] < counts[q] && exponent(q) == 0;
+            return has(q) && 2 * leanings[q] < counts[q] && exponentIsZero(q);
         }
 
         private boolean leansBelow(int q) {
-            return has(q) && scale.near == 0 && 2 * leanings[q] <= -counts[q] && exponent(q) == 0;
+            return has(q) && scale.near == 0 && 2 * leanings[q] <= -counts[q] && exponentIsZero(q);
         }
 
-        private int exponent(int q) {
+        // Nothing that is answered depends on K but by whether it is 0, which is so when N itself is not below A.
+        private boolean exponentIsZero(int q) {
             if (!has(q)) {
-                return 0;
+                return true;
             }
             int n = counts[q];
             int size = sizes[q] + (q == END_LIKE ? n / 2 : 0);
-            int k = 0;
-            while (k < 31 && ((long) n << k) < size) {
-                k++;
-            }
-            return k;
+            return n >= size;
         }
     }
 }
