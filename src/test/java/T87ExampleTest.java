@@ -1,6 +1,7 @@
 /**
  * The standard's own example (T.87, annex H.3): its 4 x 4 picture, told by the coder and written with the standard's
- * Golomb and run codes, must give the standard's bytes; no reading of ours stands behind these.
+ * Golomb and run codes, must give the standard's bytes. Picture, bytes and codes were written down from memory of the
+ * standard, which is not at hand here; none of them was fitted to the program's answers.
  */
 public final class T87ExampleTest {
     private static final int[][] PICTURE = {
