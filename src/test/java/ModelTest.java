@@ -1,23 +1,26 @@
 import java.util.Random;
 import java.util.function.Supplier;
 
-/** Long runs of calls, sensible and senseless, on LinePredict and on the model beside it: all answers are the same. */
+/** Runs of 512 calls, sensible and senseless, on LinePredict and on the model beside it: all answers are the same. */
 public final class ModelTest {
     private static final int[] EDGES = {
         Integer.MIN_VALUE, Integer.MIN_VALUE + 1, -70001, -70000, -1, 0, 1, 2, 3, 4, 5, 10, 11, 63, 64, 255, 256, 257,
         364, 365, 366, 367, 65535, 65536, 65537, 70000, 70001, Integer.MAX_VALUE};
-    private static final int OBJECTS = 3000;
+    private static final int OBJECTS = 6000;
+    private static final int CALLS_FOR_THE_LAST_LOOK = 100;
+    private static final int CALLS_OF_ONE_ROUND = 20;
 
     private final Check check;
     private final Random random;
-    private final LinePredict real;
+    private final Line real;
     private final Model model;
-    private final String name;
     private final int noise;
-    private int[] folds = new int[1024];
+    private final boolean chatty;
+    private final int[] folds = new int[Line.MOST_CALLS];
+    private final int[] contexts = new int[Line.MOST_CALLS];
     private int folded = 0;
     private int unfolded = 0;
-    private int calls = 0;
+    private int told = 0;
 
     private ModelTest(Check check, int seed) {
         this.check = check;
@@ -26,17 +29,33 @@ public final class ModelTest {
         int bits = random.nextInt(16) == 0 ? edge() : 2 + random.nextInt(15);
         int near = random.nextInt(16) == 0 ? edge() : random.nextInt(3) == 0 ? random.nextInt(260) : random.nextInt(4);
         noise = random.nextInt(4);
-        name = "seed " + seed + " (" + width + ", " + bits + ", " + near + ")";
-        real = new LinePredict(width, bits, near);
+        chatty = random.nextInt(3) == 0;
+        check.sentence("seed " + seed + " (" + width + ", " + bits + ", " + near + ")");
+        real = new Line(width, bits, near);
         model = new Model(width, bits, near);
     }
 
     public static void main(String[] args) {
         Check check = new Check();
+        everyBitsAndNear(check);
         for (int seed = 1; seed <= OBJECTS && !check.anyWrong(); seed++) {
             new ModelTest(check, seed).run();
         }
         check.finish();
+    }
+
+    private static void everyBitsAndNear(Check check) {
+        for (int bits = 1; bits <= 17; bits++) {
+            for (int near = -1; near <= 256; near++) {
+                check.sentence("(3, " + bits + ", " + near + ")");
+                Line real = new Line(3, bits, near);
+                Model model = new Model(3, bits, near);
+                for (int k = 0; k < 11; k++) {
+                    check.same("setting(" + k + ")", real.setting(k), model.setting(k));
+                }
+                check.same("state(0, 1, 0)", real.state(0, 1, 0), model.state(0, 1, 0));
+            }
+        }
     }
 
     private void run() {
@@ -44,8 +63,7 @@ public final class ModelTest {
         for (int i = 0; i < settings; i++) {
             changeSettings();
         }
-        boolean chatty = random.nextInt(3) == 0;
-        while (calls < 512 && !check.anyWrong()) {
+        while (real.callsLeft() > CALLS_FOR_THE_LAST_LOOK + CALLS_OF_ONE_ROUND && !check.anyWrong()) {
             int kind = random.nextInt(chatty ? 40 : 400);
             if (kind < 4) {
                 changeSettings();
@@ -61,20 +79,11 @@ public final class ModelTest {
                 tellSample();
             }
         }
-        // The last look at everything is made beyond the document's limit on calls, where the class still answers.
-        for (int side = 0; side < 2; side++) {
-            for (int q = 1; q <= 366; q++) {
-                for (int what = 0; what < 4; what++) {
-                    askState(side, q, what);
-                }
-            }
-        }
-        askAll();
+        lookAtLast();
     }
 
     private void compare(String call, Supplier<Object> got, Object due) {
-        calls++;
-        check.same(name + " call " + calls + " " + call, Check.answer(got), due);
+        check.same("call " + (Line.MOST_CALLS - real.callsLeft() + 1) + " " + call, Check.answer(got), due);
     }
 
     private void changeSettings() {
@@ -108,14 +117,27 @@ public final class ModelTest {
             model.state(side, q, what));
     }
 
-    private void askAll() {
+    private void askOfLastSample() {
         compare("context()", real::context, model.context);
         compare("predicted()", real::predicted, model.predicted);
         compare("runs()", real::runs, model.runs);
-        for (int i = 0; i < 11; i++) {
+        for (int i = 0; i < 5; i++) {
             int k = i;
             compare("neighbour(" + k + ")", () -> real.neighbour(k), model.neighbour(k));
+        }
+    }
+
+    private void lookAtLast() {
+        askOfLastSample();
+        for (int i = 0; i < 11; i++) {
+            int k = i;
             compare("setting(" + k + ")", () -> real.setting(k), model.setting(k));
+        }
+        while (told > 0 && real.callsLeft() >= 8) {
+            int q = contexts[random.nextInt(told)];
+            for (int i = 0; i < 8; i++) {
+                askState(i / 4, q, i % 4);
+            }
         }
     }
 
@@ -126,11 +148,9 @@ public final class ModelTest {
         } else {
             compare("back(" + x + ", " + number + ")", () -> real.back(x, number), due);
         }
-        check.same(name + " context() after call " + calls, real.context(), model.context);
-        check.same(name + " predicted() after call " + calls, real.predicted(), model.predicted);
-        check.same(name + " runs() after call " + calls, real.runs(), model.runs);
-        for (int i = 0; i < 5; i++) {
-            check.same(name + " neighbour(" + i + ") after call " + calls, real.neighbour(i), model.neighbours[i]);
+        contexts[told++] = model.context == 0 ? 366 : model.context;
+        if (random.nextInt(chatty ? 2 : 16) == 0) {
+            askOfLastSample();
         }
         return due;
     }

@@ -12,7 +12,7 @@ public final class T87ExampleTest {
     private static final int LIMIT = 32;
     private static final int BITS = 8;
 
-    private final LinePredict line = new LinePredict(4, BITS, 0);
+    private final Line line = new Line(4, BITS, 0);
     private final StringBuilder bits = new StringBuilder();
     private final int[] a = new int[367];
     private final int[] n = new int[367];
