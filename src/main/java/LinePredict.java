@@ -335,8 +335,8 @@ public final class LinePredict {
 
     /** The coder or the decoder: its place in the picture, the samples it rebuilt, its contexts. */
     private static final class Side {
-        // An object lives for 512 calls: a longer row is only begun, and need not be held to its end.
-        private static final int ROOM_AT_FIRST = 512;
+        // An object is used for 512 calls: of a longer row no more samples can be told, and what is above them is 0.
+        private static final int MOST_HELD = 512;
 
         final Contexts contexts;
         final Scale scale;
@@ -345,7 +345,7 @@ public final class LinePredict {
         int line;
         boolean running;
         // One row is enough: before place it is the row that is being told, from place on the one above.
-        private int[] row;
+        private final int[] row;
         private int corner;
         private int aboveFirst;
 
@@ -353,7 +353,7 @@ public final class LinePredict {
             this.width = width;
             this.scale = scale;
             contexts = new Contexts(scale);
-            row = new int[Math.max(1, Math.min(width, ROOM_AT_FIRST))];
+            row = new int[Math.max(1, Math.min(width, MOST_HELD))];
             place = 0;
             line = 0;
             running = false;
@@ -387,7 +387,6 @@ public final class LinePredict {
             if (place == 0) {
                 aboveFirst = corner;
             }
-            makeRoom();
             if (place >= 0 && place < row.length) {
                 row[place] = rebuilt;
             }
@@ -406,15 +405,8 @@ public final class LinePredict {
             return true;
         }
 
-        // What was not held yet is above the first row, where all are 0.
         private int rowAt(int x) {
             return x >= 0 && x < row.length ? row[x] : 0;
-        }
-
-        private void makeRoom() {
-            if (place >= row.length && row.length < width) {
-                row = Arrays.copyOf(row, Math.min(width, 2 * row.length));
-            }
         }
     }
 

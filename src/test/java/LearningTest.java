@@ -23,6 +23,7 @@ public final class LearningTest {
         test.halvedAtTheGreatestReset();
         test.halvedAtTheFirstReset();
         test.leaningInSteps();
+        test.lastContextOfGradients();
         test.correctionUpTo127();
         test.correctionDownTo128();
         test.check.finish();
@@ -187,6 +188,19 @@ public final class LearningTest {
         error(0, 0, 5, -2, 0, 4);
         // B is -9, N 5: -4.
         error(-1, 1, 6, -4, -1, 5);
+    }
+
+    /** a = 20, b = 80, c = 50, d = 110: gradients 30, 30, 30, and 50 is predicted. */
+    private void lastContextOfGradients() {
+        check.sentence("contexts (to 364) B = C = 0, (365, 366) M = 0");
+        int[][] due = {{60, 20, 14, 0, 1}, {40, 19, 14, -1, -1}, {49, 1, 5, -1, 0}, {51, 2, 5, -1, 1}};
+        for (int[] row : due) {
+            Pair three = new Pair(check, 3, 8, 0);
+            three.tell(50, 80, 110, 20);
+            three.tellAs(row[0], row[1], row[0]);
+            check.seen("of it", three.line, 364, 50);
+            three.learnt(364, row[2], row[3], row[4], 2);
+        }
     }
 
     /** Errors of 300 move B beyond N each time, so that C is 1 more each time. */

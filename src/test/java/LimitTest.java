@@ -9,6 +9,7 @@ public final class LimitTest {
         test.samplesOfOneRow();
         test.errorsOfOneRow();
         test.runOfOneRow();
+        test.flatAtTheLastCall();
         test.rowOfAllCalls();
         test.longRowsAbove();
         test.rowsOfOne();
@@ -48,6 +49,18 @@ public final class LimitTest {
         }
         check.same("runs()", line.runs(), 2);
         check.same("its end", line.sample(255, 9), 17);
+    }
+
+    /** The 512th sample is flat, as its a is 0 and so is all that is above, its d at place 512 too. */
+    private void flatAtTheLastCall() {
+        check.sentence("Above the first row all are 0");
+        Line coder = new Line(65536, 8, 0);
+        Line decoder = new Line(65536, 8, 0);
+        for (int x = 0; x < 511; x++) {
+            decoder.back(x, coder.sample(x, x == 509 ? 5 : 0));
+        }
+        check.same("the coder's 512th call", coder.sample(511, 0), RUN);
+        check.same("the decoder's 512th call", Check.answer(() -> decoder.back(511, RUN)), 0);
     }
 
     private void rowOfAllCalls() {
