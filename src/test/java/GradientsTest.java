@@ -128,14 +128,18 @@ public final class GradientsTest {
             {20, 30, 19, 30}, {30, 20, 19, 30}, {30, 20, 1, 30}, {20, 20, 50, 20}, {20, 20, 1, 20}, {255, 0, 100, 155},
             {0, 255, 0, 255}, {255, 255, 0, 255}, {0, 0, 255, 0}};
         for (int[] row : due) {
-            above(row[0], row[1], row[2], row[1]).tellSeen(7, new int[] {
-                contextOf(row[1] - row[2], row[2] - row[0]), row[3], row[0], row[1], row[2], row[1], 7});
+            // What d is does not count; it is near b, as the first sample of the row has taught other contexts.
+            for (int d : new int[] {row[1], Math.max(0, row[1] - 13), Math.min(255, row[1] + 13)}) {
+                Pair pair = above(row[0], row[1], row[2], d);
+                int context = contextOf(d - row[1], row[1] - row[2], row[2] - row[0]);
+                pair.tellSeen(7, context, row[3], row[0], row[1], row[2], d, 7);
+            }
         }
     }
 
-    /** The context of gradients 0, g and h by thresholds 5, 9, 14. */
-    private static int contextOf(int g, int h) {
-        return Math.abs(9 * numberOf(g) + numberOf(h));
+    /** The context of three gradients by thresholds 5, 9, 14. */
+    private static int contextOf(int g, int h, int i) {
+        return Math.abs(81 * numberOf(g) + 9 * numberOf(h) + numberOf(i));
     }
 
     private static int numberOf(int g) {

@@ -32,8 +32,9 @@ final class Pair {
     void tellSeen(int v, int... due) {
         int folded = line.sample(x, v);
         check.seen("of the coder's " + v + " at " + x, line, due);
-        line.back(x, folded);
+        int rebuilt = line.back(x, folded);
         check.seen("of the decoder's " + v + " at " + x, line, due);
+        check.same("back(" + x + ", " + folded + ")", rebuilt, line.neighbour(4));
         goOn();
     }
 

@@ -12,6 +12,7 @@ public final class RunEndTest {
         test.contextByNear();
         test.contextWithoutNear();
         test.signByTheTwo();
+        test.signByNoOther();
         test.turnOfLike();
         test.turnOfUnlike();
         test.halvedOfLike();
@@ -86,6 +87,27 @@ public final class RunEndTest {
         // SIGN is 1 below a, too: e is -1.
         pair.tellAs(8, 0, 8);
         pair.learnt(LIKE, 10, 1, 0, 3);
+    }
+
+    /** A row told twice, then a run of 9 to the place of b; c and d lie on the other side of it than a does, or of a. */
+    private void endBelow(int[] row, int place, int sample, int folded) {
+        pair = new Pair(check, row.length, 8, 0);
+        pair.tell(row);
+        pair.tell(row);
+        for (int x = 0; x < place; x++) {
+            pair.tell(9);
+        }
+        pair.tellAs(sample, folded, sample);
+        check.seen("of " + sample, pair.line, UNLIKE, row[place], 9, row[place], row[place - 1]);
+    }
+
+    private void signByNoOther() {
+        check.sentence("365 (b is predicted, SIGN is -1 if a is above b)");
+        // b is 20, c 50; b is 50, d 0; then b is 7, c 5; b is 5, d 20: one more than b.
+        endBelow(new int[] {9, 9, 9, 9, 50, 20}, 5, 21, 2);
+        endBelow(new int[] {9, 9, 9, 9, 50, 0}, 4, 51, 2);
+        endBelow(new int[] {9, 9, 9, 9, 5, 7}, 5, 8, 1);
+        endBelow(new int[] {9, 9, 9, 9, 5, 20}, 4, 6, 1);
     }
 
     /** In a first row 0 is flat: a sample ends the run at once, and 0 behind it makes all flat again. */

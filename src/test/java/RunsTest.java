@@ -54,6 +54,11 @@ public final class RunsTest {
         lastOf(new int[] {7, 4, 3, 5, 7, 7, 6, 1}, 366, 6, 6, 7, 6, 7);
         lastOf(new int[] {2, 3, 0, 0, 0, 1}, 0, 1, 1, 0, 0, 0);
         lastOf(new int[] {7, 7, 0, 3, 7, 6, 4, 2}, 366, 5, 5, 6, 6, 6);
+        // Two or three of them at NEAR, which together go farther.
+        lastOf(new int[] {1, 3, 4, 7, 2, 1, 3, 2, 7}, 366, 2, 2, 2, 3, 1);
+        lastOf(new int[] {4, 7, 5, 7, 4, 1, 3, 6, 6}, 366, 4, 4, 4, 3, 5);
+        lastOf(new int[] {4, 7, 6, 6, 4, 3, 3, 3}, 0, 4, 4, 2, 3, 2);
+        lastOf(new int[] {2, 5, 0, 0, 3, 3, 2, 6}, 365, 4, 2, 4, 3, 4);
     }
 
     private void gradientsBeyondNear() {
@@ -64,6 +69,10 @@ public final class RunsTest {
         lastOf(new int[] {2, 4, 5, 3, 2, 5, 4, 0}, 9, 5, 3, 5, 3, 5);
         lastOf(new int[] {3, 2, 7, 0, 4, 2, 4, 4}, 1, 5, 5, 3, 3, 3);
         lastOf(new int[] {2, 3, 5, 6, 5, 7}, 1, 4, 4, 6, 6, 6);
+        // One of them beyond NEAR, though together they do not go as far.
+        lastOf(new int[] {6, 2, 1, 1, 5, 4, 7, 5, 0}, 81, 7, 7, 7, 6, 5);
+        lastOf(new int[] {0, 3, 2, 1, 5, 5, 5, 7, 2}, 81, 5, 5, 5, 6, 7);
+        lastOf(new int[] {4, 6, 6, 7, 2, 2, 2, 4}, 1, 1, 1, 2, 3, 2);
     }
 
     private void distanceOfNear() {
