@@ -59,7 +59,10 @@ public final class GradientsTest {
         }
     }
 
-    /** Samples of 3 bits with NEAR 1, two in a row (T1 is 3 there); the last one's context, predicted, a, b, c, d. */
+    /**
+     * Rows that a search with Model found, of 3 bits with NEAR 1 (T1 is 3 there), two samples each; due is the last
+     * one's context, predicted, a, b, c, d.
+     */
     private void lastOf(int[] samples, int... due) {
         Pair pair = new Pair(check, 2, 3, 1);
         for (int i = 0; i + 1 < samples.length; i++) {

@@ -23,7 +23,10 @@ public final class RunEndTest {
         test.check.finish();
     }
 
-    /** Samples of 3 bits with NEAR 1, two in a row; the last one's context, predicted, a and b, on both sides. */
+    /**
+     * Rows that a search with Model found, of 3 bits with NEAR 1, two samples each; due is the last one's context,
+     * predicted, a and b, on both sides.
+     */
     private void lastOf(int[] samples, int... due) {
         Pair two = new Pair(check, 2, 3, 1);
         for (int i = 0; i + 1 < samples.length; i++) {

@@ -35,7 +35,8 @@ public final class RunsTest {
 
     /**
      * Samples of 3 bits with NEAR 1, two in a row; the last one's neighbours a, b, c, d are due, and its context.
-     * Rebuilt ones lie 1 apart only where a correction moved what was predicted, or MAX cut it.
+     * Rebuilt ones lie 1 apart only where a correction moved what was predicted, or MAX cut it: a search with Model
+     * found these rows.
      */
     private void lastOf(int[] samples, int context, int predicted, int... neighbours) {
         Pair pair = new Pair(check, 2, 3, 1);
